@@ -13,9 +13,7 @@ public final class CoatsHall {
     private static final int FAULT_ANSWER = -10;
     private static final int WEIGHTS_TOLD = 1 << 4, GIVE_TOLD = 1 << 5, LESS_TOLD = 1 << 6;
 
-    // A text is read into the draft, so that a fault leaves the hall as it was.
     private Hall theHall = new Hall();
-    private Hall draft = new Hall();
     private final Reader reader = new Reader();
     private final Image now = new Image();
     private final Image imageZero = new Image();
@@ -40,11 +38,9 @@ public final class CoatsHall {
 
     public int hall() {
         if (now.events.number > 0) return NOT;
-        int found = reader.read(draft);
+        int found = reader.read();
         if (found != 0) return FAULT_ANSWER - found;
-        Hall old = theHall;
-        theHall = draft;
-        draft = old;
+        theHall = reader.changeDraft(theHall);
         imageZero.kept = false;
         imageOne.kept = false;
         return theHall.pegs;
@@ -361,9 +357,9 @@ public final class CoatsHall {
         final int[] walk = new int[PEGS];
         final int[] share = new int[SORTS * PARTS];
         final int[] weight = new int[PARTS];
-        int pegs;
-        int ticks;
-        int loss;
+        int pegs = 0;
+        int ticks = 0;
+        int loss = 0;
 
         void clear() {
             pegs = 0;
@@ -418,14 +414,15 @@ public final class CoatsHall {
 
     /** THE TEXT, and the reading of it: steps go in the order of bytes, so that the first fault found is the one told. */
     private static final class Reader {
-        final byte[] text = new byte[TEXT_BYTES];
+        private final byte[] text = new byte[TEXT_BYTES];
         int length = 0;
         int place = NONE;
         private int failure = 0;
         private int at = 0;
         private int firstFigure = 0;
         private int toldBefore = 0;
-        private Hall into = null;
+        // A text is read into a draft, so that a fault leaves the hall as it was.
+        private Hall draft = new Hall();
 
         int append(int n, long bytes) {
             for (int i = n - 1; i >= 0 && length < TEXT_BYTES; i--) {
@@ -436,9 +433,8 @@ public final class CoatsHall {
         }
 
         /** The number of the fault, 0 for none; the text is empty then. */
-        int read(Hall target) {
-            into = target;
-            into.clear();
+        int read() {
+            draft.clear();
             failure = 0;
             place = NONE;
             at = 0;
@@ -450,6 +446,13 @@ public final class CoatsHall {
             }
             length = 0;
             return failure;
+        }
+
+        /** The hall as it was read last, for one that is to be written over. */
+        Hall changeDraft(Hall old) {
+            Hall told = draft;
+            draft = old;
+            return told;
         }
 
         private void readClause() {
@@ -466,13 +469,13 @@ public final class CoatsHall {
                 needWord("give");
                 int ticks = needNumber(0, MOST_TICKS);
                 needEnd();
-                into.ticks = ticks;
+                draft.ticks = ticks;
             } else if (isHere("less")) {
                 tellOnce(LESS_TOLD, start);
                 needWord("less");
                 int loss = needNumber(0, MOST_LOSS);
                 needEnd();
-                into.loss = loss;
+                draft.loss = loss;
             } else {
                 fail(CANNOT_STAND, start);
             }
@@ -481,13 +484,13 @@ public final class CoatsHall {
         private void readRow() {
             needWord("row");
             int n = needNumber(1, PEGS);
-            if (into.pegs + n > PEGS) fail(TOO_MANY_PEGS, firstFigure);
+            if (draft.pegs + n > PEGS) fail(TOO_MANY_PEGS, firstFigure);
             needWord("kind");
             int rowKind = needNumber(0, KINDS - 1);
             needWord("walk");
             int firstWalk = needNumber(0, MOST_WALK);
             needEnd();
-            if (failure == 0) into.addRow(n, rowKind, firstWalk);
+            if (failure == 0) draft.addRow(n, rowKind, firstWalk);
         }
 
         private void readOdds() {
@@ -499,7 +502,7 @@ public final class CoatsHall {
             int c = needNumber(0, HUNDRED);
             if (a + b + c != HUNDRED) fail(NOT_HUNDRED, firstFigure);
             needEnd();
-            into.tellShares(sort, a, b, c);
+            draft.tellShares(sort, a, b, c);
         }
 
         private void readWeights() {
@@ -508,7 +511,7 @@ public final class CoatsHall {
             int y = needNumber(0, MOST_WEIGHT);
             int z = needNumber(0, MOST_WEIGHT);
             needEnd();
-            into.tellWeights(x, y, z);
+            draft.tellWeights(x, y, z);
         }
 
         private void tellOnce(int bit, int where) {
