@@ -156,6 +156,14 @@ public final class ClaimsTest {
         Due.is("30: the first claim is unsure still", x.grant(0), NOT);
         Due.is("30: the second", x.grant(1), 4);
         Due.is("30: to guest 1", x.told(1, 7), 4);
+        CoatsHall w = lost(4, 1, 1, 1, 2, 3);
+        w.claim(3, 2, 1);
+        w.claim(0, 1, 2);
+        w.claim(1, 3, 0);
+        w.claim(2, 0, 2);
+        Due.is("30: the first of four", w.grant(0), 3);
+        int[] fits = {0b00111, 0b10000, 0b00111};
+        for (int c = 0; c < 3; c++) Due.is("30: what is told of each goes with it", w.fits(c), fits[c]);
         Due.is("30: one left", x.count(3), 1);
         Due.is("26: one who has something", x.claim(3, 0, 0), NOT);
         Due.is("18: astray", x.astray(), 0b1110);
@@ -201,6 +209,16 @@ public final class ClaimsTest {
         y.claim(1, 8, 0);
         Due.is("32: two alike", y.asks(0), NONE);
         Due.is("32: fits nothing", y.asks(1), NONE);
+        CoatsHall w = lost(1, 0b0111, 0b0010, 0b0001, 0b0100);
+        w.guest(0, 0, 0, 0b1000);
+        w.claim(0, 0, 0);
+        w.claim(4, 0, 0);
+        Due.is("32: two of three", w.asks(0), 0b0011);
+        // 4's own does not hang; neither 0 nor 1 is on it, and so on 3's alone.
+        Due.is("32: another's", w.asks(1), 0b0011);
+        CoatsHall v = lost(1, 0b0100, 0b0011, 0b0010, 0b0001);
+        v.claim(0, 0, 0);
+        Due.is("32: fewer marks, though the greater set", v.asks(0), 0b0100);
         CoatsHall z = lost(1, 255, 254, 253, 251, 247, 239, 223, 191, 127);
         z.claim(0, 0, 0);
         Due.is("32: all eight", z.asks(0), 255);

@@ -6,6 +6,7 @@ public final class ImagesTest {
     public static void main(String[] args) {
         refusals();
         whatIsKept();
+        nothingIsLeftOver();
         whatIsNotKept();
         imagesStay();
         hallToldAnew();
@@ -64,6 +65,46 @@ public final class ImagesTest {
         Due.is("34: hung no more", x.hang(0, 4, 4, 4), 3);
         x.goBack(0);
         Due.is("34: it may hang again", x.hang(1, 4, 5, 5), 3);
+    }
+
+    /** Two branches from one image differ in all that it keeps: nothing of the one is seen in the other. */
+    private static void nothingIsLeftOver() {
+        CoatsHall x = Due.withHall("row 6 kind 0 walk 1;row 6 kind 1 walk 1;");
+        x.keep(0);
+        branch(x, 0, 1);
+        x.keep(1);
+        x.goBack(0);
+        branch(x, 1, 2);
+        seen(x, 1, 2);
+        x.goBack(1);
+        seen(x, 0, 1);
+        x.keep(0);
+        x.goBack(0);
+        seen(x, 0, 1);
+    }
+
+    private static void branch(CoatsHall x, int kind, int s) {
+        for (int g = 0; g < 4; g++) x.guest(s, kind, 10 * s + g, 16 * s + g);
+        for (int g = 0; g < 4; g++) x.hang(s, g, 6 * kind + g, 6 * s + g);
+        for (int g = 3; g > 3 - s; g--) x.lose(g);
+        for (int g = 3; g > 3 - s; g--) x.claim(g, s == 1 ? 3 : 1, s == 1 ? 4 : 2);
+    }
+
+    private static void seen(CoatsHall x, int kind, int s) {
+        int[] due = {12, 4, 4 + s, s, 0, 0};
+        for (int what = 0; what <= 5; what++) Due.is("34: count(" + what + ")", x.count(what), due[what]);
+        for (int g = 0; g < 4; g++) {
+            int[] it = {s, kind, 10 * s + g, 16 * s + g, g > 3 - s ? NONE : 6 * s + g, 6 * kind + g, NONE, NONE, 400};
+            for (int what = 0; what <= 8; what++) Due.is("34: told(" + g + ", " + what + ")", x.told(g, what), it[what]);
+            int[] event = {0, s, g, 6 * kind + g, 6 * s + g, g, 6 * kind == 6 * s ? 0 : 1};
+            for (int what = 0; what <= 6; what++) Due.is("34: event(" + g + ", " + what + ")", x.event(g, what), event[what]);
+        }
+        for (int c = 0; c < s; c++) {
+            Due.is("34: fits(" + c + ")", x.fits(c), s == 1 ? 0b1000 : 0b0010);
+            Due.is("34: asks(" + c + ")", x.asks(c), 0);
+        }
+        Due.is("34: has a claim", x.claim(3, 0, 0), NOT);
+        Due.is("34: has one of two", x.claim(2, 0, 0), NOT);
     }
 
     private static void whatIsNotKept() {

@@ -5,6 +5,7 @@ public final class PlansTest {
 
     public static void main(String[] args) {
         plans();
+        sixteen();
         noPlan();
         likeOnes();
         leastIsLeast();
@@ -41,6 +42,17 @@ public final class PlansTest {
         x.tonight(0, 0);
         int each = 333 + 2 * 333 + 5 * 334;
         plan(x, false, each * (3 + 4 + 7 + 2), 2, 3, 0, 4);
+    }
+
+    private static void sixteen() {
+        CoatsHall x = Due.withHall("row 24 kind 0 walk 0;odds 0 100 0 0;");
+        for (int g = 0; g < 16; g++) x.guest(g == 15 ? 1 : 0, 0, 0, 0);
+        for (int g = 0; g < 16; g++) {
+            Due.is("10: the last first", x.plan(false, g), g == 15 ? 0 : g + 1);
+            Due.is("10: by habit", x.plan(true, g), g);
+        }
+        Due.is("10: sum", x.plan(false, NONE), 100 * (15 * 16 / 2));
+        Due.is("10: sum", x.plan(true, NONE), 100 * (14 * 15 / 2) + 400 * 15);
     }
 
     private static void noPlan() {
