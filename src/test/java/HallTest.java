@@ -178,7 +178,7 @@ public final class HallTest {
 
     private static void hallAndState() {
         CoatsHall x = Due.withHall("row 2 kind 1 walk 5;odds 2 1 2 97;weights 3 4 5;give 6;less 7;");
-        Due.is("3: a fault", feedAndTell(x, "row 3 kind 0 walk 1;give 9;less 8;weights 1 1 1;odds 2 3 3 94;odd"), -11);
+        Due.is("3: a fault", Due.hallOf(x, "row 3 kind 0 walk 1;give 9;less 8;weights 1 1 1;odds 2 3 3 94;odd"), -11);
         Due.is("4: its place", x.fault(), 62);
         int[] due = {2, 0, 0, 0, 0, 0, 6, 7, 3, 4, 5};
         for (int what = 0; what <= 10; what++) Due.is("3: all is as it was, " + what, x.count(what), due[what]);
@@ -188,7 +188,7 @@ public final class HallTest {
         x.claim(0, 0, 0);
         x.night(0, 0, 9, 0, 0);
         x.tonight(0, 0);
-        Due.is("3: anew", feedAndTell(x, "row 1 kind 1 walk 8;"), 1);
+        Due.is("3: anew", Due.hallOf(x, "row 1 kind 1 walk 8;"), 1);
         Due.is("4: NONE", x.fault(), NONE);
         int[] then = {1, 1, 0, 1, 1, 0, 2, 1, 1, 2, 5};
         for (int what = 0; what <= 10; what++) Due.is("3: anew, " + what, x.count(what), then[what]);
@@ -204,14 +204,9 @@ public final class HallTest {
         CoatsHall y = Due.withHall("row 2 kind 1 walk 5;");
         Due.is("3: an empty text is a hall", y.hall(), 0);
         Due.is("3: no pegs", y.count(0), 0);
-        Due.is("4: fault, then NOT", feedAndTell(y, " give 1 "), -11);
+        Due.is("4: fault, then NOT", Due.hallOf(y, " give 1 "), -11);
         Due.is("4: place", y.fault(), 8);
         Due.is("4: again", y.fault(), 8);
-    }
-
-    private static int feedAndTell(CoatsHall x, String text) {
-        Due.feed(x, text);
-        return x.hall();
     }
 
     private static void pegs() {

@@ -2,15 +2,24 @@
 final class Due {
     private static int calls = 0;
     private static int wrong = 0;
+    private static int sentences = 0;
+    private static String sentence = "";
+
+    /** The sentence of the document, behind its promise's number or its part's name, that the next answers hold to. */
+    static void says(String words) {
+        sentence = "[" + words + "] ";
+        sentences++;
+    }
 
     static void is(String call, long got, long want) {
         calls++;
         if (got == want) return;
         wrong++;
-        if (wrong <= 50) System.out.println(call + " answered " + got + ", due is " + want);
+        if (wrong <= 50) System.out.println(sentence + call + " answered " + got + ", due is " + want);
     }
 
     static void end() {
+        if (sentences > 0) System.out.println(sentences + " sentences");
         System.out.println(calls + " answers, " + wrong + " not as due");
         if (wrong != 0 || calls == 0) System.exit(1);
     }
@@ -21,6 +30,11 @@ final class Due {
             String part = text.substring(i, Math.min(text.length(), i + 8));
             is("feed of " + part, x.feed(part.length(), bytesOf(part)), x.count(5));
         }
+    }
+
+    static int hallOf(CoatsHall x, String text) {
+        feed(x, text);
+        return x.hall();
     }
 
     static long bytesOf(String part) {
