@@ -537,15 +537,13 @@ public final class CoatsHall {
             return within(byteAt(i), '0', '9');
         }
 
-        private boolean isLetter(int i) {
-            return within(byteAt(i), 'a', 'z');
-        }
-
         private boolean isHere(String word) {
             for (int i = 0; i < word.length(); i++) {
                 if (byteAt(at + i) != word.charAt(i)) return false;
             }
-            return !isLetter(at + word.length());
+            // A letter more makes it another word.
+            int behind = byteAt(at + word.length());
+            return behind < 'a' || behind > 'z';
         }
 
         private void needWord(String word) {

@@ -340,7 +340,8 @@ public final class ClaimEdgesTest {
         Due.says("30: the CLAIM is gone, later ones have one number less");
         for (int gone = 0; gone < 6; gone++) {
             CoatsHall x = lost(6, 1, 2, 4, 8, 16, 32, 64);
-            for (int c = 0; c < 6; c++) x.claim(5 - c, 32 >> c, c == 2 ? 128 : 0);
+            // By turns told by what it has and by what it has not: each FITS its own alone.
+            for (int c = 0; c < 6; c++) x.claim(5 - c, c % 2 == 0 ? 32 >> c : 0, c % 2 == 0 ? 0 : 127 ^ 32 >> c);
             Due.is("grant(" + gone + ")", x.grant(gone), 5 - gone);
             Due.is("five", x.count(3), 5);
             Due.is("no sixth", x.fits(5), UNKNOWN);

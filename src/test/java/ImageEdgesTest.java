@@ -95,6 +95,11 @@ public final class ImageEdgesTest {
         Due.is("another in its place", x.guest(2, 0, 22, 222), 1);
         int[] due = {2, 0, 22, 222, NONE, NONE, NONE, NONE, 400};
         for (int what = 0; what <= 8; what++) Due.is("told(1, " + what + ")", x.told(1, what), due[what]);
+        x.keep(1);
+        x.goBack(0);
+        x.guest(3, 2, 33, 33);
+        x.goBack(1);
+        for (int what = 0; what <= 8; what++) Due.is("the one that was kept, " + what, x.told(1, what), due[what]);
     }
 
     private static void eventsAreKept() {
@@ -126,6 +131,11 @@ public final class ImageEdgesTest {
         int[] due = {2, NONE, 0, NONE, 4, NONE, 0};
         for (int what = 0; what <= 6; what++) Due.is("event(1, " + what + ")", x.event(1, what), due[what]);
         Due.is("none behind it", x.event(2, 0), UNKNOWN);
+        x.keep(1);
+        x.goBack(0);
+        x.hang(3, 1, 6, 6);
+        x.goBack(1);
+        for (int what = 0; what <= 6; what++) Due.is("the one that was kept, " + what, x.event(1, what), due[what]);
     }
 
     private static void claimsAreKept() {
@@ -149,13 +159,13 @@ public final class ImageEdgesTest {
         x.guest(0, 1, 0, 0);
         x.lose(0);
         x.lose(1);
-        x.claim(0, 1, 0);
-        x.claim(1, 2, 0);
+        x.claim(0, 1, 2);
+        x.claim(1, 2, 1);
         x.keep(0);
         x.keep(1);
         Due.is("1's is granted", x.grant(0), 1);
         Due.is("2's is granted", x.grant(0), 2);
-        x.claim(3, 4, 8);
+        x.claim(3, 4, 255 ^ 4);
         x.goBack(0);
         Due.is("3 has none", x.hang(0, 3, 12, 12), 5);
         Due.is("0 has one", x.claim(0, 0, 0), NOT);

@@ -254,9 +254,9 @@ public final class RefusalsTest {
         refused("guest of kind 3 behind 16", x -> x.guest(0, 3, 0, 0), OUTSIDE);
         refused("guest with tip 100 behind 16", x -> x.guest(0, 0, 100, 0), OUTSIDE);
         refused("guest with marks 256 behind 16", x -> x.guest(0, 0, 0, 256), OUTSIDE);
-        refused("night of play 4 behind 60", x -> x.night(4, 0, 0, 0, 0), OUTSIDE);
-        refused("night of weather 2 behind 60", x -> x.night(0, 2, 0, 0, 0), OUTSIDE);
-        refused("night with 1000 behind 60", x -> x.night(0, 0, 0, 0, 1000), OUTSIDE);
+        for (int play : new int[] {4, -1}) refused("night of play " + play + " behind 60", x -> x.night(play, 0, 0, 0, 0), OUTSIDE);
+        for (int weather : new int[] {2, -1}) refused("night of weather " + weather + " behind 60", x -> x.night(0, weather, 0, 0, 0), OUTSIDE);
+        for (int left : new int[] {1000, -1}) refused("night with " + left + " behind 60", x -> x.night(0, 0, 0, 0, left), OUTSIDE);
         refused("claim with marks 256 behind 6", x -> x.claim(6, 256, 0), OUTSIDE);
         refused("claim with marks in both behind 6", x -> x.claim(6, 1, 1), OUTSIDE);
     }
