@@ -83,15 +83,18 @@ public final class PlansTest {
     /** No way of giving five guests their pegs has a lesser sum. */
     private static void leastIsLeast() {
         CoatsHall x = Due.withHall("row 3 kind 0 walk 9;row 4 kind 0 walk 2;odds 0 80 10 10;odds 1 5 5 90;odds 2 50 25 25;odds 3 0 60 40;");
+        int[] expected = new int[5], walks = new int[7];
         for (int g = 0; g < 5; g++) x.guest(g % 4, 0, 0, 0);
-        Due.is("10: least", x.plan(false, NONE), least(x, 0, 0));
+        for (int g = 0; g < 5; g++) expected[g] = x.told(g, 8);
+        for (int p = 0; p < 7; p++) walks[p] = x.peg(p, 1);
+        Due.is("10: least", x.plan(false, NONE), least(expected, walks, 0, 0));
     }
 
-    private static int least(CoatsHall x, int g, int used) {
-        if (g == x.count(1)) return 0;
+    private static int least(int[] expected, int[] walks, int g, int used) {
+        if (g == expected.length) return 0;
         int best = MOST;
-        for (int p = 0; p < x.count(0); p++) {
-            if ((used >> p & 1) == 0) best = Math.min(best, x.told(g, 8) * x.peg(p, 1) + least(x, g + 1, used | 1 << p));
+        for (int p = 0; p < walks.length; p++) {
+            if ((used >> p & 1) == 0) best = Math.min(best, expected[g] * walks[p] + least(expected, walks, g + 1, used | 1 << p));
         }
         return best;
     }
